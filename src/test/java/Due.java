@@ -1,0 +1,60 @@
+/** Counts and prints the answers that are not the ones due; shared by all tests of the project. */
+final class Due {
+    static final int BEYOND = -1000000001;
+    static final int FULL = -1000000002;
+    static final int KIND = -1000000003;
+    static final int NONE = -1000000004;
+    static final int STATE = -1000000005;
+    static final int MISSING = -1000000006;
+    static final int SIZE = -1000000007;
+
+    private static int wrong = 0;
+    private static int asked = 0;
+
+    private Due() {
+    }
+
+    static void is(String call, long got, long want) {
+        asked++;
+        if (got != want) {
+            wrong++;
+            System.out.println(call + " answered " + got + ", due is " + want);
+        }
+    }
+
+    static void holds(String what, boolean yes) {
+        is(what, yes ? 1 : 0, 1);
+    }
+
+    /** Puts a text of any length on the tape; what feed() answered last. */
+    static int feed(BentPlain x, String text) {
+        int answer = 0;
+        for (int i = 0; i < text.length(); i++) {
+            answer = x.feed(text.charAt(i), 1);
+        }
+        return answer;
+    }
+
+    /** Feeds a text and tells it. */
+    static int plain(BentPlain x, String text) {
+        x.wipe();
+        feed(x, text);
+        return x.plain();
+    }
+
+    /** A plain told by a text that must have no fault. */
+    static BentPlain told(String... texts) {
+        BentPlain x = new BentPlain();
+        for (String text : texts) {
+            holds("text without a fault: " + text, plain(x, text) > 0);
+        }
+        return x;
+    }
+
+    static void end() {
+        if (wrong != 0) {
+            System.out.println(wrong + " of " + asked + " answers are not as due");
+            System.exit(1);
+        }
+    }
+}
