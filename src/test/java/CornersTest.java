@@ -79,6 +79,7 @@ public final class CornersTest {
         Due.is("more than 4 about it", twelveAbout().bent(), 7);
         BentPlain y = Due.told("field;field;glue 1 north 1 east");
         Due.is("only the field that has it", y.bent(), 2);
+        Due.is("the first corner of all", Due.told("field;field;glue 0 north 0 east").bent(), 1);
     }
 
     private static void parts() {

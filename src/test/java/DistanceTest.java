@@ -73,6 +73,12 @@ public final class DistanceTest {
         Due.is("within(7, 1)", x.within(7, 1), Due.BEYOND);
     }
 
+    /** Free are only the last side of 0 and the first of 1. */
+    private static BentPlain nextSides() {
+        return Due.told("field;field;field;glue 0 north 2 north;glue 0 east 2 east;glue 0 south 2 south",
+            "glue 1 east 1 south;glue 1 west 2 west");
+    }
+
     private static void mends() {
         BentPlain x = bypass();
         Due.is("mends(0, 0)", x.mends(0, 0), Due.NONE);
@@ -88,6 +94,22 @@ public final class DistanceTest {
         x.glue(0, 3, 6, 1);
         Due.is("mends(0, 3): 0 has no side left, 1 can't come nearer", x.mends(0, 3), Due.NONE);
         Due.is("mends(0, 5): least by a glue that isn't its own", x.mends(0, 5), 64 * 4 + 20);
+        BentPlain two = Due.told("field;field");
+        Due.is("the least sides of all", two.mends(0, 1), 4);
+        two.glue(0, 0, 0, 1);
+        two.glue(0, 2, 1, 1);
+        two.field(0);
+        Due.is("to a third", two.mends(0, 2), 64 * 3 + 8);
+        two.glue(1, 0, 1, 2);
+        two.glue(1, 3, 2, 3);
+        two.field(0);
+        two.glue(2, 0, 2, 1);
+        two.glue(2, 2, 3, 2);
+        two.cut(1, 1);
+        Due.is("through a side and the next one", two.mends(0, 3), 64 * 2 + 12);
+        two.glue(0, 2, 0, 3);
+        Due.is("from 0 there is no side", two.mends(0, 3), Due.NONE);
+        Due.is("a side and the next one", nextSides().mends(0, 1), 64 * 3 + 4);
         BentPlain closed = Due.told("field;field;glue 0 north 0 south;glue 0 east 0 west");
         Due.is("no side left on the one", closed.mends(0, 1), Due.NONE);
         Due.is("nor from the other", closed.mends(1, 0), Due.NONE);

@@ -51,6 +51,20 @@ final class Due {
         return x;
     }
 
+    /** A plain from the rough of its fields and pairs of sides, each 4 times its field and itself. */
+    static BentPlain glued(String roughs, String pairs) {
+        BentPlain x = new BentPlain();
+        for (int f = 0; f < roughs.length(); f++) {
+            is("field", x.field(roughs.charAt(f) - '0'), f);
+        }
+        for (String pair : pairs.split(" ")) {
+            int one = Integer.parseInt(pair.substring(0, pair.indexOf('-')));
+            int other = Integer.parseInt(pair.substring(pair.indexOf('-') + 1));
+            is("glue " + pair, x.glue(one / 4, one % 4, other / 4, other % 4), 1);
+        }
+        return x;
+    }
+
     static void end() {
         if (wrong != 0) {
             System.out.println(wrong + " of " + asked + " answers are not as due");

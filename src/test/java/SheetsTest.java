@@ -78,6 +78,7 @@ public final class SheetsTest {
         Due.is("number 0", x.write(1, 0, 0), 0);
         Due.is("number 1", x.write(1, 1, 0), 3);
         Due.is("number 2", x.write(1, 2, 0), 4);
+        Due.is("copy(1, 0, 0, 1, 3): all of it", x.copy(1, 0, 0, 1, 3), 3);
         Due.is("copy(0, 5, 1, 3, 0)", x.copy(0, 5, 1, 3, 0), 0);
         Due.is("copy(0, 6, 1, 0, 0)", x.copy(0, 6, 1, 0, 0), Due.BEYOND);
         Due.is("copy(0, 2, 1, 0, 4): the one has not so many", x.copy(0, 2, 1, 0, 4), Due.BEYOND);
@@ -130,12 +131,18 @@ public final class SheetsTest {
             Due.is("number " + i, x.write(0, i, 0), due[i]);
         }
         Due.is("nothing changes", x.its(0, 3), 0);
+        x.walker(3, 2, 1);
+        x.book(0, 1);
+        int[] boys = {2, 2, 2, 2, 1, 0, 0};
+        for (int i = 0; i < 7; i++) {
+            Due.is("number " + i, x.write(0, i, 0), boys[i]);
+        }
         x.sheet(1, 64, 0);
         Due.is("a book of none", x.book(1, 0), 0);
         Due.is("book(4, 0)", x.book(4, 0), Due.BEYOND);
         Due.is("book(-1, 0)", x.book(-1, 0), Due.BEYOND);
         Due.is("book(2, 9): MISSING is asked first", x.book(2, 9), Due.MISSING);
-        Due.is("book(0, 1)", x.book(0, 1), Due.BEYOND);
+        Due.is("book(0, 2)", x.book(0, 2), Due.BEYOND);
         Due.is("book(0, -1)", x.book(0, -1), Due.BEYOND);
     }
 

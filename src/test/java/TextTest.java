@@ -84,6 +84,10 @@ public final class TextTest {
         Due.is("a letter in capitals", Due.plain(x, "Field"), -1);
         Due.is("a tab is no blank", Due.plain(x, "field\t;field"), -6);
         Due.is("a number for an item", Due.plain(x, "field;3"), -7);
+        Due.is("z is a letter", Due.plain(x, "fieldz"), -1);
+        Due.is("9 is a digit", Due.plain(x, "field rough 99"), -13);
+        Due.is("another first letter", Due.plain(x, "glue 2 forth"), -8);
+        Due.is("another last letter", Due.plain(x, "glue 2 nortf"), -8);
         Due.is("a minus", Due.plain(x, "field rough -1"), -13);
         Due.is("count(0)", x.count(0), 4);
     }
@@ -124,6 +128,9 @@ public final class TextTest {
         Due.is("field 3", Due.plain(x, "field 3"), -7);
         Due.is("14 more", Due.plain(x, "field;field;field;field;field;field;field;field;field;field;field;field;field;field"), 14);
         Due.is("count(0)", x.count(0), 16);
+        Due.is("a number of two digits", Due.plain(x, "glue 12 north 15 east"), 1);
+        Due.is("over(12, 0)", x.over(12, 0), 61);
+        Due.is("no field 16", Due.plain(x, "glue 16 south"), -6);
         Due.is("a 17th", Due.plain(x, "cat at 0 west;field rough 10"), -15);
         Due.is("count(1)", x.count(1), 0);
     }

@@ -219,6 +219,21 @@ public final class WalkersTest {
         Due.is("when(0, 4)", x.when(0, 4), Due.BEYOND);
         Due.is("when(1, 0)", x.when(1, 0), Due.BEYOND);
         Due.is("nothing changes", x.its(0, 4), 0);
+        lastWhen();
+    }
+
+    /** Two ways of a boy, found by trying, that come to a field after 100 and after 101 steps. */
+    private static void lastWhen() {
+        BentPlain x = Due.glued("2521597475364468", "41-33 7-38 35-56 28-19 10-50 60-22 13-47 55-37 54-39 63-62 11-45"
+            + " 58-57 53-49 0-27 25-9 42-14 2-4 44-24 29-52 6-40 12-61 26-32 48-18 43-17 1-3 46-30 16-59 51-15 31-8 5-36 21-20");
+        x.walker(3, 10, 0);
+        Due.is("100 steps", x.when(0, 5), 100);
+        BentPlain y = Due.glued("9859422170161535", "50-34 47-43 12-1 31-57 19-60 51-2 17-29 42-45 63-55 49-53 58-27 15-24"
+            + " 5-6 52-30 46-20 8-25 44-41 54-38 7-56 21-23 59-26 37-39 16-35 40-48 18-13 28-36 22-3 4-33 0-32 61-14 11-10 62-9");
+        y.walker(3, 0, 1);
+        Due.is("101 steps", y.when(0, 9), Due.NONE);
+        y.step(0);
+        Due.is("a step later", y.when(0, 9), 100);
     }
 
     private static void back() {
@@ -245,6 +260,34 @@ public final class WalkersTest {
         Due.is("meet(0, 4)", x.meet(0, 4), Due.BEYOND);
         Due.is("meet(4, 0)", x.meet(4, 0), Due.BEYOND);
         Due.is("nothing changes", x.count(4), 0);
+        lastMeet();
+    }
+
+    /**
+     * A ring of 11 fields (0 to 10) to the east, and a dead end of 6 (0, 11 to 15) to the north:
+     * one is on 0 every 11 steps, the other, to and fro, for two of every 12.
+     */
+    private static void lastMeet() {
+        BentPlain x = new BentPlain();
+        for (int f = 0; f < 16; f++) {
+            x.field(0);
+        }
+        for (int f = 0; f <= 10; f++) {
+            x.glue(f, 1, (f + 1) % 11, 3);
+        }
+        x.glue(0, 0, 11, 2);
+        for (int f = 11; f < 15; f++) {
+            x.glue(f, 0, f + 1, 2);
+        }
+        x.walker(0, 10, 1);
+        x.walker(0, 13, 2);
+        Due.is("on 0 in 1 step", x.when(0, 0), 1);
+        Due.is("on 0 in 3 steps", x.when(1, 0), 3);
+        Due.is("meet in 100", x.meet(0, 1), 100);
+        Due.is("meet in 100", x.meet(1, 0), 100);
+        x.place(0, 9, 1);
+        x.place(1, 14, 2);
+        Due.is("meet in 101", x.meet(0, 1), Due.NONE);
     }
 
     private static void spares() {

@@ -111,6 +111,27 @@ public final class WaysTest {
         Due.is("two rings with one field in common", rings.dine(1, 1, 4, 2), 2);
         rings.cut(0, 2);
         Due.is("a ring and a way that ends", rings.dine(1, 3, 3, 2), 1);
+        lastDine();
+    }
+
+    /** Two rings, of 9 fields to the east (0 to 8) and of 8 to the north (0, 9 to 15). */
+    private static void lastDine() {
+        BentPlain x = new BentPlain();
+        for (int f = 0; f < 16; f++) {
+            x.field(0);
+        }
+        for (int f = 0; f <= 8; f++) {
+            x.glue(f, 1, (f + 1) % 9, 3);
+        }
+        x.glue(0, 0, 9, 2);
+        for (int f = 9; f < 15; f++) {
+            x.glue(f, 0, f + 1, 2);
+        }
+        x.glue(15, 0, 0, 2);
+        Due.is("dine in 64", x.dine(8, 1, 0, 0), 64);
+        Due.is("dine in 64", x.dine(0, 0, 8, 1), 64);
+        Due.is("dine in 65", x.dine(7, 1, 15, 0), Due.NONE);
+        Due.is("dine in 63", x.dine(0, 1, 9, 0), 63);
     }
 
     private static void sees() {
@@ -135,6 +156,8 @@ public final class WaysTest {
         Due.is("sees(0, 0)", y.sees(0, 0), 7);
         Due.is("sees(0, 1)", y.sees(0, 1), 7);
         Due.is("twice(0): seen by two ways", y.twice(0), 2);
+        BentPlain z = Due.told("field;field;field;glue 1 north 0 south;glue 1 east 2 west;glue 1 west 2 east");
+        Due.is("twice(1): 0 is seen once", z.twice(1), 1);
         Due.is("twice(3)", y.twice(3), Due.BEYOND);
         Due.is("twice(-1)", y.twice(-1), Due.BEYOND);
     }

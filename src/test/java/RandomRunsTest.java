@@ -1,0 +1,258 @@
+import java.util.Random;
+
+/** Runs of calls drawn from fixed seeds: the program's answers against those of PlainModel. */
+public final class RandomRunsTest {
+    private static final int RUNS = 1500;
+    private static final int CALLS = 300;
+    private static final String[] NAMES = ("field of rough glue cut over walker its place turn as step steps on when back"
+        + " meet spares closes bumps square dine sees twice about corners excess bent parts far smooth turns within mends"
+        + " text wipe plain sheet write copy lays book read image undo tear count status").split(" ");
+    private static final String[] WORDS = {"field", "field rough 7", "field rough 10", "glue", "cut", "walker at", "cat at",
+        "boy at", "carter at", "soldier", "surveyor at", "at", "rough", "0", "1", "2", "3", "15", "16", "007", "1000", "north",
+        "east", "south", "west", ";", ";", ";", "!", "dog"};
+    private static final String[] SIDES = {"north", "east", "south", "west"};
+
+    private final Random random;
+    private final BentPlain x = new BentPlain();
+    private final PlainModel model = new PlainModel();
+    private final int run;
+    private final int fields;
+
+    private RandomRunsTest(int run) {
+        this.run = run;
+        random = new Random(run);
+        fields = 1 + random.nextInt(16);
+    }
+
+    public static void main(String[] args) {
+        for (int run = 0; run < RUNS; run++) {
+            RandomRunsTest test = new RandomRunsTest(run);
+            test.begin();
+            for (int i = 0; i < CALLS; i++) {
+                test.callOne();
+            }
+            test.lookAtAll();
+        }
+        Due.end();
+    }
+
+    /** Most runs begin with fields and much glue, so that ways are long and corners closed. */
+    private void begin() {
+        for (int f = 0; f < fields; f++) {
+            due("field", random.nextInt(10));
+        }
+        int tries = random.nextInt(300);
+        for (int i = 0; i < tries; i++) {
+            int side = random.nextInt(4);
+            int its = random.nextInt(3) == 0 ? random.nextInt(4) : (side + 2) % 4;
+            due("glue", random.nextInt(fields), side, random.nextInt(fields), its);
+        }
+        int people = random.nextInt(7);
+        for (int w = 0; w < people; w++) {
+            due("walker", random.nextInt(6), random.nextInt(fields), random.nextInt(4));
+        }
+    }
+
+    private void callOne() {
+        String name = NAMES[random.nextInt(NAMES.length)];
+        switch (name) {
+            case "text":
+                text();
+                break;
+            case "write":
+                due(name, pick(4), pick(10), random.nextBoolean() ? random.nextLong() : random.nextInt(12));
+                break;
+            case "sheet":
+                due(name, pick(4), new int[] {0, 8, 16, 64, 64, 16, 8, 32}[random.nextInt(8)],
+                    random.nextInt(8) == 0 ? pick(41) : random.nextInt(12));
+                break;
+            case "copy":
+                due(name, pick(4), pick(6), pick(4), pick(6), pick(6));
+                break;
+            case "steps":
+            case "spares":
+                due(name, pick(101));
+                break;
+            case "on":
+                due(name, pick(6), pick(101), pick(4));
+                break;
+            case "square":
+                due(name, pick(fields), pick(4), pick(10));
+                break;
+            case "within":
+                due(name, pick(fields), pick(17));
+                break;
+            case "rough":
+                due(name, pick(fields), pick(10));
+                break;
+            case "field":
+                if (random.nextInt(4) == 0) {
+                    due(name, pick(10));
+                }
+                break;
+            default:
+                plainCall(name);
+        }
+    }
+
+    /** Calls whose arguments are fields, walkers, headings and kinds. */
+    private void plainCall(String name) {
+        switch (name) {
+            case "of": due(name, pick(fields), pick(3)); break;
+            case "its": due(name, pick(6), pick(6)); break;
+            case "glue": case "dine": due(name, pick(fields), pick(4), pick(fields), pick(4)); break;
+            case "cut": case "over": case "closes": case "bumps": case "sees": case "about":
+                due(name, pick(fields), pick(4)); break;
+            case "walker": due(name, pick(6), pick(fields), pick(4)); break;
+            case "place": due(name, pick(6), pick(fields), pick(4)); break;
+            case "turn": case "as": case "meet": due(name, pick(6), pick(6)); break;
+            case "step": case "back": due(name, pick(6)); break;
+            case "when": due(name, pick(6), pick(fields)); break;
+            case "twice": due(name, pick(fields)); break;
+            case "far": case "smooth": case "mends": due(name, pick(fields), pick(fields)); break;
+            case "turns": due(name, pick(fields), pick(4), pick(fields)); break;
+            case "lays": due(name, pick(4)); break;
+            case "book": case "read": due(name, pick(4), pick(6)); break;
+            case "count": due(name, pick(5)); break;
+            case "status": due(name, random.nextInt(10) - 2); break;
+            default: due(name);
+        }
+    }
+
+    /** A number below a bound most times; else one about its edges or far away. */
+    private int pick(int bound) {
+        if (random.nextInt(12) != 0) {
+            return random.nextInt(bound);
+        }
+        int[] odd = {-1, bound, bound - 1, 0, Integer.MAX_VALUE, Integer.MIN_VALUE, 1 << 30, -bound};
+        return odd[random.nextInt(odd.length)];
+    }
+
+    private void text() {
+        StringBuilder text = new StringBuilder();
+        int items = 1 + random.nextInt(5);
+        for (int i = 0; i < items; i++) {
+            text.append(i == 0 ? "" : ";").append(item());
+        }
+        if (random.nextInt(4) == 0) {
+            int at = random.nextInt(text.length() + 1);
+            text.insert(at, WORDS[random.nextInt(WORDS.length)]);
+        }
+        if (random.nextInt(6) == 0) {
+            text.setLength(random.nextInt(text.length() + 1));
+        }
+        if (random.nextInt(12) == 0) {
+            text.append((char) random.nextInt(256));
+        }
+        for (int i = 0; i < text.length(); i++) {
+            due("feed", text.charAt(i) | random.nextInt() << 8, 1);
+        }
+        if (random.nextInt(4) != 0) {
+            due("plain");
+        }
+        if (random.nextInt(8) == 0) {
+            due("feed", random.nextInt(), pick(5));
+        }
+    }
+
+    private String item() {
+        String blank = random.nextInt(5) == 0 ? "  " : " ";
+        String end = random.nextInt(5) == 0 ? " " : "";
+        switch (random.nextInt(8)) {
+            case 0: return "field" + end;
+            case 1: return "field" + blank + "rough" + blank + random.nextInt(11) + end;
+            case 2: case 3: return "glue" + blank + side() + blank + side() + end;
+            case 4: case 5: return "cut" + blank + side() + end;
+            case 6: return PlainModel.KINDS.get(random.nextInt(6)) + blank + "at" + blank + side() + end;
+            default: return WORDS[random.nextInt(WORDS.length)] + blank + WORDS[random.nextInt(WORDS.length)] + end;
+        }
+    }
+
+    private String side() {
+        return random.nextInt(fields + 1) + " " + SIDES[random.nextInt(4)];
+    }
+
+    private void lookAtAll() {
+        for (int f = 0; f < 17; f++) {
+            for (int i = 0; i < 4; i++) {
+                due("of", f, i);
+                due("over", f, i);
+                due("about", f, i);
+            }
+        }
+        for (int w = 0; w < 7; w++) {
+            for (int what = 0; what < 6; what++) {
+                due("its", w, what);
+            }
+        }
+        for (int which = -1; which < 7; which++) {
+            due("status", which);
+        }
+    }
+
+    private void due(String name, long... a) {
+        long got = program(name, a);
+        long want = model.call(name, a);
+        if (got != want) {
+            Due.is("run " + run + ": " + name + java.util.Arrays.toString(a), got, want);
+        }
+    }
+
+    private long program(String name, long[] l) {
+        int[] a = new int[6];
+        for (int i = 0; i < l.length; i++) {
+            a[i] = (int) l[i];
+        }
+        switch (name) {
+            case "field": return x.field(a[0]);
+            case "of": return x.of(a[0], a[1]);
+            case "rough": return x.rough(a[0], a[1]);
+            case "glue": return x.glue(a[0], a[1], a[2], a[3]);
+            case "cut": return x.cut(a[0], a[1]);
+            case "over": return x.over(a[0], a[1]);
+            case "walker": return x.walker(a[0], a[1], a[2]);
+            case "its": return x.its(a[0], a[1]);
+            case "place": return x.place(a[0], a[1], a[2]);
+            case "turn": return x.turn(a[0], a[1]);
+            case "as": return x.as(a[0], a[1]);
+            case "step": return x.step(a[0]);
+            case "steps": return x.steps(a[0]);
+            case "on": return x.on(a[0], a[1], a[2]);
+            case "when": return x.when(a[0], a[1]);
+            case "back": return x.back(a[0]);
+            case "meet": return x.meet(a[0], a[1]);
+            case "spares": return x.spares(a[0]);
+            case "closes": return x.closes(a[0], a[1]);
+            case "bumps": return x.bumps(a[0], a[1]);
+            case "square": return x.square(a[0], a[1], a[2]);
+            case "dine": return x.dine(a[0], a[1], a[2], a[3]);
+            case "sees": return x.sees(a[0], a[1]);
+            case "twice": return x.twice(a[0]);
+            case "about": return x.about(a[0], a[1]);
+            case "corners": return x.corners();
+            case "excess": return x.excess();
+            case "bent": return x.bent();
+            case "parts": return x.parts();
+            case "far": return x.far(a[0], a[1]);
+            case "smooth": return x.smooth(a[0], a[1]);
+            case "turns": return x.turns(a[0], a[1], a[2]);
+            case "within": return x.within(a[0], a[1]);
+            case "mends": return x.mends(a[0], a[1]);
+            case "feed": return x.feed(a[0], a[1]);
+            case "wipe": return x.wipe();
+            case "plain": return x.plain();
+            case "sheet": return x.sheet(a[0], a[1], a[2]);
+            case "write": return x.write(a[0], a[1], l[2]);
+            case "copy": return x.copy(a[0], a[1], a[2], a[3], a[4]);
+            case "lays": return x.lays(a[0]);
+            case "book": return x.book(a[0], a[1]);
+            case "read": return x.read(a[0], a[1]);
+            case "image": return x.image();
+            case "undo": return x.undo();
+            case "tear": return x.tear();
+            case "count": return x.count(a[0]);
+            case "status": return x.status(a[0]);
+            default: throw new AssertionError(name);
+        }
+    }
+}
