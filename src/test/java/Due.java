@@ -26,11 +26,15 @@ final class Due {
         is(what, yes ? 1 : 0, 1);
     }
 
-    /** Puts a text of any length on the tape; what feed() answered last. */
+    /** Puts a text on the tape, four bytes a call as far as they go; what feed() answered last. */
     static int feed(BentPlain x, String text) {
         int answer = 0;
+        int bytes = 0;
         for (int i = 0; i < text.length(); i++) {
-            answer = x.feed(text.charAt(i), 1);
+            bytes = bytes << 8 | text.charAt(i);
+            if (i % 4 == 3 || i == text.length() - 1) {
+                answer = x.feed(bytes, i % 4 + 1);
+            }
         }
         return answer;
     }

@@ -4,7 +4,6 @@ import java.lang.reflect.Method;
 import java.lang.reflect.Modifier;
 import java.nio.file.Files;
 import java.nio.file.Path;
-import java.util.Arrays;
 import java.util.HashSet;
 import java.util.Set;
 import java.util.TreeSet;
@@ -12,11 +11,6 @@ import java.util.regex.Pattern;
 
 /** The face of the document, no more and no less, and those rules of LANGUAGE.md that can be seen from here. */
 public final class FaceTest {
-    private static final String FACE = "field1 of2 rough2 glue4 cut2 over2 walker3 its2 place3 turn2 as2 step1 steps1 on3"
-        + " when2 back1 meet2 spares1 closes2 bumps2 square3 dine4 sees2 twice1 about2 corners0 excess0 bent0 parts0 far2"
-        + " smooth2 turns3 within2 mends2 feed2 wipe0 plain0 sheet3 write3 copy5 lays1 book2 read2 image0 undo0 tear0"
-        + " count1 status1";
-
     public static void main(String[] args) throws IOException {
         methods();
         members(BentPlain.class);
@@ -26,7 +20,7 @@ public final class FaceTest {
     }
 
     private static void methods() {
-        Set<String> due = new TreeSet<>(Arrays.asList(FACE.split(" ")));
+        Set<String> due = new TreeSet<>(Calls.FACE);
         Set<String> got = new TreeSet<>();
         Set<String> names = new HashSet<>();
         for (Method m : BentPlain.class.getDeclaredMethods()) {
