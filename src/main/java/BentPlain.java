@@ -859,7 +859,7 @@ public final class BentPlain {
                 case BOY:
                     return miles % 3 == 0 ? 3 : quartersOnComing(above(kind), rough, miles);
                 case CAT:
-                    return quartersOnComing(above(kind), rough, miles) + miles % 2;
+                    return quartersOnComing(above(kind), rough, miles) + (miles % 2 == 0 ? 0 : 1);
                 default:
                     return quartersOnComing(above(kind), rough, miles);
             }

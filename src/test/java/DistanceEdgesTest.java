@@ -91,6 +91,9 @@ public final class DistanceEdgesTest {
             "mends 0 4 = NONE");
         Script.run("35: NONE: it would be no less", "fields 4", "sides 0-6 4-10 8-14 1-2 3-7 12-13 15-11", "far 0 3 = 3",
             "mends 0 3 = NONE", "mends 3 0 = NONE");
+        // Free are only the last side of 0 and the first of 1.
+        Script.run("35: a SIDE and the very next one", "fields 3", "sides 0-8 1-9 2-10 5-6 7-11", "far 0 1 = 2",
+            "mends 0 1 = " + (64 * 3 + 4), "mends 1 0 = " + (64 * 3 + 4));
         Script.run("35: NONE: no two SIDES are free", "fields 2", "sides 0-1 2-3 4-5", "mends 0 1 = NONE",
             "mends 1 0 = NONE");
         Script.run("35: NONE: one SIDE is free", "fields 3", "sides 0-1 2-3", "mends 0 1 = NONE", "mends 1 0 = NONE",

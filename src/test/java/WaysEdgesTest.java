@@ -85,6 +85,8 @@ public final class WaysEdgesTest {
         Script.runOn(RING, "23: NONE: they pass each other", "dine 0 1 1 3 = NONE", "dine 0 1 3 3 = NONE");
         Script.runOn(ROW, "23: NONE: the one BUMPS ahead of that", "dine 3 1 0 1 = NONE", "dine 2 0 0 1 = NONE");
         Script.runOn(ROW, "23: NONE: the other BUMPS ahead of that", "dine 0 1 3 1 = NONE", "dine 0 1 2 0 = NONE");
+        Script.runOn(RING, "23: NONE: one BUMPS, though the other comes there, or goes round for ever", "dine 2 0 0 1 = NONE",
+            "dine 0 1 2 0 = NONE", "dine 0 1 2 2 = NONE", "dine 2 2 1 3 = NONE");
         Script.runOn(ROW, "23: BEYOND: no such FIELD", "dine -1 0 0 0 = BEYOND", "dine 4 0 0 0 = BEYOND",
             "dine 0 0 -1 0 = BEYOND", "dine 0 0 4 0 = BEYOND", "dine MAX 0 MAX 0 = BEYOND", "dine MIN 0 MIN 0 = BEYOND");
         Script.runOn(ROW, "23: BEYOND: no such HEADING", "dine 0 -1 0 0 = BEYOND", "dine 0 4 0 0 = BEYOND",
@@ -110,6 +112,7 @@ public final class WaysEdgesTest {
         Script.runOn(ROW, "25: none is seen twice", "twice 0 = 0", "twice 1 = 0");
         Script.runOn(PILLOW, "25: its own not", "twice 0 = 0");
         Script.runOn(RING, "25: all but its own", "twice 0 = 3", "twice 3 = 3");
+        Script.run("25: two WAYS that are the first ones", "fields 2", "sides 0-5 1-6", "twice 0 = 1", "twice 1 = 1");
         Script.run("25: two WAYS that are the last ones", "fields 2", "sides 2-5 3-6", "twice 0 = 1", "twice 1 = 1");
         Script.run("25: three and four times, too", "fields 2", "sides 0-4 1-5 2-6", "twice 0 = 1", "sides 3-7",
             "twice 0 = 1");
