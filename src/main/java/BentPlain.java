@@ -54,7 +54,6 @@ public final class BentPlain {
     private final int[] otherDistances = new int[MOST_FIELDS];
     private final int[] quarters = new int[MOST_WAYS];
     private final Tape tape = new Tape();
-    private final Teller teller = new Teller(tape, now);
     private final Sheet[] sheets = new Sheet[SHEETS];
     private final int[] found = new int[FINDINGS];
     private boolean hasKept;
@@ -512,7 +511,7 @@ public final class BentPlain {
 
     public int plain() {
         before.become(now);
-        int items = teller.tellAll();
+        int items = Teller.tellAll(tape, now);
         if (items < 0) {
             now.become(before);
         }
@@ -1233,19 +1232,11 @@ public final class BentPlain {
      * What refuses a token does not take it: the fault is then where the tape stands.
      */
     private static final class Teller {
-        private final Tape tape;
-        private final Ground ground;
-
-        Teller(Tape itsTape, Ground itsGround) {
-            tape = itsTape;
-            ground = itsGround;
-        }
-
         /** How many items, or -1 less the fault's place (the ground is then told in part). */
-        int tellAll() {
+        static int tellAll(Tape tape, Ground ground) {
             tape.begin();
             for (int items = 1; items <= MOST_BYTES + 1; items++) {
-                if (!tellItem()) {
+                if (!tellItem(tape, ground)) {
                     return -1 - tape.start;
                 }
                 if (tape.sort == Tape.END) {
@@ -1259,20 +1250,20 @@ public final class BentPlain {
             return -1 - tape.start;
         }
 
-        private boolean tellItem() {
+        private static boolean tellItem(Tape tape, Ground ground) {
             if (tape.isWord("field")) {
-                return tellField();
+                return tellField(tape, ground);
             }
             if (tape.isWord("glue")) {
-                return tellGlue();
+                return tellGlue(tape, ground);
             }
             if (tape.isWord("cut")) {
-                return tellCut();
+                return tellCut(tape, ground);
             }
-            return tellWalker();
+            return tellWalker(tape, ground);
         }
 
-        private boolean tellField() {
+        private static boolean tellField(Tape tape, Ground ground) {
             if (ground.fields >= MOST_FIELDS) {
                 return false;
             }
@@ -1290,14 +1281,14 @@ public final class BentPlain {
             return true;
         }
 
-        private boolean tellGlue() {
+        private static boolean tellGlue(Tape tape, Ground ground) {
             tape.advance();
-            int one = lookAtSide();
+            int one = lookAtSide(tape, ground);
             if (one == NOWHERE || !ground.isFree(one)) {
                 return false;
             }
             tape.advance();
-            int other = lookAtSide();
+            int other = lookAtSide(tape, ground);
             if (other == NOWHERE || !ground.isFree(other) || other == one) {
                 return false;
             }
@@ -1306,9 +1297,9 @@ public final class BentPlain {
             return true;
         }
 
-        private boolean tellCut() {
+        private static boolean tellCut(Tape tape, Ground ground) {
             tape.advance();
-            int side = lookAtSide();
+            int side = lookAtSide(tape, ground);
             if (side == NOWHERE || ground.isFree(side)) {
                 return false;
             }
@@ -1317,8 +1308,8 @@ public final class BentPlain {
             return true;
         }
 
-        private boolean tellWalker() {
-            int kind = kindNamed();
+        private static boolean tellWalker(Tape tape, Ground ground) {
+            int kind = kindNamed(tape);
             if (kind == NOWHERE || ground.walkers >= MOST_WALKERS) {
                 return false;
             }
@@ -1327,7 +1318,7 @@ public final class BentPlain {
                 return false;
             }
             tape.advance();
-            int way = lookAtSide();
+            int way = lookAtSide(tape, ground);
             if (way == NOWHERE) {
                 return false;
             }
@@ -1337,17 +1328,17 @@ public final class BentPlain {
         }
 
         /** Takes a field's number and looks at the side behind it, which may yet be refused. */
-        private int lookAtSide() {
+        private static int lookAtSide(Tape tape, Ground ground) {
             if (!tape.isNumberBelow(ground.fields)) {
                 return NOWHERE;
             }
             int field = tape.number;
             tape.advance();
-            int side = sideNamed();
+            int side = sideNamed(tape);
             return side == NOWHERE ? NOWHERE : wayOf(field, side);
         }
 
-        private int sideNamed() {
+        private static int sideNamed(Tape tape) {
             for (int side = 0; side < SIDES; side++) {
                 if (tape.isWord(sideName(side))) {
                     return side;
@@ -1356,7 +1347,7 @@ public final class BentPlain {
             return NOWHERE;
         }
 
-        private int kindNamed() {
+        private static int kindNamed(Tape tape) {
             for (int kind = 0; kind < KINDS; kind++) {
                 if (tape.isWord(kindName(kind))) {
                     return kind;

@@ -1,4 +1,5 @@
 import java.io.IOException;
+import java.lang.reflect.Constructor;
 import java.lang.reflect.Field;
 import java.lang.reflect.Method;
 import java.lang.reflect.Modifier;
@@ -15,6 +16,8 @@ public final class FaceTest {
         methods();
         members(BentPlain.class);
         nested();
+        constructors();
+        sizes();
         words();
         Due.end();
     }
@@ -70,6 +73,38 @@ public final class FaceTest {
             Due.holds(c + " is static", Modifier.isStatic(c.getModifiers()));
             Due.holds(c + " isn't public", !Modifier.isPublic(c.getModifiers()) && !Modifier.isProtected(c.getModifiers()));
             statics(c);
+        }
+    }
+
+    /** Rule 12: who makes an object hands out nothing of it, so no class inside takes another one when it is made. */
+    private static void constructors() {
+        for (Class<?> c : BentPlain.class.getDeclaredClasses()) {
+            for (Constructor<?> made : c.getDeclaredConstructors()) {
+                for (Class<?> type : made.getParameterTypes()) {
+                    Due.holds(made + " takes numbers alone", type.isPrimitive());
+                }
+            }
+        }
+    }
+
+    /** Rule 11. */
+    private static void sizes() {
+        Class<?>[] inside = BentPlain.class.getDeclaredClasses();
+        Due.holds("twelve classes at most, not " + (1 + inside.length), inside.length < 12);
+        size(BentPlain.class);
+        for (Class<?> c : inside) {
+            size(c);
+        }
+    }
+
+    private static void size(Class<?> c) {
+        int fields = 0;
+        for (Field f : c.getDeclaredFields()) {
+            fields += Modifier.isStatic(f.getModifiers()) ? 0 : 1;
+        }
+        Due.holds(c + " has twenty fields at most, not " + fields, fields <= 20);
+        for (Method m : c.getDeclaredMethods()) {
+            Due.holds(m + " takes seven at most", m.getParameterCount() <= 7);
         }
     }
 
